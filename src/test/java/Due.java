@@ -1,0 +1,47 @@
+/** Compares answers with what is due, and ends the program with exit code 1 if one is wrong. */
+final class Due {
+    private int promise;
+    private int asked;
+    private int wrong;
+
+    /** What is asked from now on belongs to this promise. */
+    void of(int promise) {
+        this.promise = promise;
+    }
+
+    void is(String call, int got, int want) {
+        asked++;
+        if (got != want) {
+            wrong++;
+            System.out.println("promise " + promise + ": " + call + " answered " + got + ", due is " + want);
+        }
+    }
+
+    /** Asks billOf(bill, 0), billOf(bill, 1) and so on. */
+    void bill(InvoiceBook book, int bill, int... want) {
+        for (int what = 0; what < want.length; what++) {
+            is("billOf(" + bill + ", " + what + ")", book.billOf(bill, what), want[what]);
+        }
+    }
+
+    /** Asks customer(customer, 0), customer(customer, 1) and so on. */
+    void customer(InvoiceBook book, int customer, int... want) {
+        for (int what = 0; what < want.length; what++) {
+            is("customer(" + customer + ", " + what + ")", book.customer(customer, what), want[what]);
+        }
+    }
+
+    /** Asks count(0), count(1) and so on. */
+    void count(InvoiceBook book, int... want) {
+        for (int what = 0; what < want.length; what++) {
+            is("count(" + what + ")", book.count(what), want[what]);
+        }
+    }
+
+    void end() {
+        System.out.println(asked + " answers looked at, " + wrong + " wrong");
+        if (wrong != 0) {
+            System.exit(1);
+        }
+    }
+}
