@@ -245,10 +245,17 @@ public final class BillsTest {
         book.bill(1, 200, 0, 0);
         book.pass(4);
         due.is("part", book.payBill(1, 50), 150);
+        due.is("all but one coin", book.payBill(1, 145), 5);
+        book.undo();
         due.bill(book, 1, 1, 200, 0, 200, 0, 0, 0, 50, 0, 0, 150, 0, 4, 1);
         due.is("the rest with the discount", book.payBill(1, 146), 0);
         due.bill(book, 1, 1, 200, 0, 200, 0, 0, 1, 196, 4, 0, 0, 0, 4, 0);
         due.is("the other", book.billOf(0, 10), 100);
+        book.set(1, 0);
+        due.is("all but one coin", book.payBill(0, 99), 1);
+        due.is("still open", book.billOf(0, 6), 0);
+        book.undo();
+        book.undo();
         due.is("too much", book.payBill(0, 200), 0);
         due.is("credit", book.customer(1, 3), 102);
         due.is("paid so far", book.customer(1, 4), 396);

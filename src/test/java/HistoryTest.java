@@ -42,6 +42,16 @@ public final class HistoryTest {
         }
         due.is("empty", book.undo(), -5);
         due.is("day", book.count(0), 7);
+        for (int times = 0; times < 20; times++) {
+            int day = book.count(0);
+            for (int acts = 0; acts < times % 6; acts++) {
+                book.pass(1);
+            }
+            for (int acts = Math.min(4, times % 6); acts > 0; acts--) {
+                due.is("day", book.count(0), day + acts + Math.max(0, times % 6 - 4));
+                due.is("undo", book.undo(), acts - 1);
+            }
+        }
     }
 
     private static void undoBringsAllBack() {

@@ -128,6 +128,14 @@ public final class TextsTest {
         fault("p1:5;", 5);
         fault("p1:5;;", 5);
         fault("p1:5;b", 6);
+        InvoiceBook book = new InvoiceBook();
+        due.is("the bill 39 is not there", Books.perform(book, "p1:5#39"), -4);
+        due.is("unknown", book.stopped(1), -1);
+        Books.type(book, "p1:555");
+        due.is("what was there before is gone", Books.perform(book, "p1:5"), 1);
+        due.is("credit", book.customer(1, 3), 5);
+        Books.type(book, "p1:555");
+        due.is("what was there before is gone", Books.perform(book, "p1:"), -103);
         good("p0:99999", 1);
         good("p7:1;p7:99999", 2);
         good("b1:9;p1:9#0", 2);
