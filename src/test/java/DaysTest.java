@@ -1,25 +1,18 @@
 /** Promises 6 to 10: days, reminders, write-offs, years, settings. */
 public final class DaysTest {
-    private static final int MIN = Integer.MIN_VALUE;
-    private static final int MAX = Integer.MAX_VALUE;
     private static final Due due = new Due();
 
     public static void main(String[] args) {
         passTellsOverdueOnes();
-        passRefuses();
-        passEndsAtTheLastDay();
         remindSendsByWeeks();
         remindSendsToSeveral();
         remindTakesTheSettings();
         remindLeavesPaidOnesAlone();
         writeOffNeedsThreeRemindersAndTime();
-        writeOffRefuses();
         closeYearByBills();
         closeYearByPayments();
-        closeYearRefuses();
         closedYearStays();
         setAnswersThePrevious();
-        setRefuses();
         due.end();
     }
 
@@ -40,35 +33,6 @@ public final class DaysTest {
         due.is("pass(1)", book.pass(1), 3);
         InvoiceBook other = Books.withWriteOff();
         due.is("written off is not overdue", other.pass(1), 0);
-    }
-
-    private static void passRefuses() {
-        due.of(6);
-        InvoiceBook book = new InvoiceBook();
-        for (int days : new int[] {0, 100, -1, MIN, MAX}) {
-            due.is("pass(" + days + ")", book.pass(days), -2);
-        }
-        due.is("day", book.count(0), 0);
-        due.is("states", book.count(20), 0);
-        due.is("pass(99)", book.pass(99), 0);
-        due.is("states", book.count(20), 1);
-    }
-
-    private static void passEndsAtTheLastDay() {
-        due.of(6);
-        InvoiceBook book = new InvoiceBook();
-        Books.passTo(book, 9998);
-        due.is("pass(2)", book.pass(2), -3);
-        due.is("day", book.count(0), 9998);
-        due.is("pass(1)", book.pass(1), 0);
-        due.is("pass(1)", book.pass(1), -3);
-        due.is("pass(0)", book.pass(0), -2);
-        due.is("pass(100)", book.pass(100), -2);
-        due.is("day", book.count(0), 9999);
-        due.is("bill on the last day", book.bill(0, 100, 20, 0), 0);
-        due.is("pay on the last day", book.pay(0, 118), 1);
-        due.is("tax of the last year", book.tax(99, 1), 19);
-        due.is("closeYear(99)", book.closeYear(99), -4);
     }
 
     private static void remindSendsByWeeks() {
@@ -175,22 +139,6 @@ public final class DaysTest {
         due.is("by a shorter time", other.writeOff(0), 135);
     }
 
-    private static void writeOffRefuses() {
-        due.of(8);
-        InvoiceBook book = new InvoiceBook();
-        due.is("no bill", book.writeOff(0), -1);
-        book.bill(0, 100, 0, 0);
-        for (int bill : new int[] {-1, 1, 39, 40, MIN, MAX}) {
-            due.is("writeOff(" + bill + ")", book.writeOff(bill), -1);
-        }
-        due.is("not reminded", book.writeOff(0), -4);
-        InvoiceBook other = Books.withThreeReminders();
-        other.pay(2, 135);
-        other.pass(7);
-        due.is("paid", other.writeOff(0), -4);
-        due.is("state", other.billOf(0, 6), 1);
-    }
-
     private static void closeYearByBills() {
         due.of(9);
         InvoiceBook book = new InvoiceBook();
@@ -230,27 +178,6 @@ public final class DaysTest {
         due.is("a year of nothing", book.closeYear(2), 0);
     }
 
-    private static void closeYearRefuses() {
-        due.of(9);
-        InvoiceBook book = new InvoiceBook();
-        for (int year : new int[] {-1, 100, MIN, MAX}) {
-            due.is("closeYear(" + year + ")", book.closeYear(year), -1);
-        }
-        due.is("not over", book.closeYear(0), -4);
-        book.pass(99);
-        due.is("on its last day", book.closeYear(0), -4);
-        Books.passTo(book, 250);
-        due.is("one ahead is open", book.closeYear(1), -4);
-        int states = book.count(20);
-        due.is("the year 0", book.closeYear(0), 0);
-        due.is("states", book.count(20), Math.min(4, states + 1));
-        due.is("the year 1", book.closeYear(1), 0);
-        due.is("the year 0 again", book.closeYear(0), -5);
-        due.is("the year 2", book.closeYear(2), -4);
-        due.is("the year 99", book.closeYear(99), -4);
-        due.is("closed years", book.count(14), 2);
-    }
-
     private static void closedYearStays() {
         due.of(9);
         InvoiceBook book = new InvoiceBook();
@@ -278,14 +205,6 @@ public final class DaysTest {
         int[] least = {0, 0, 1, 0, 0};
         int[] most = {99, 20, 99, 99, 1};
         for (int which = 0; which < 5; which++) {
-            due.is("so already", book.set(which, first[which]), -5);
-            due.is("below", book.set(which, least[which] - 1), -2);
-            due.is("above", book.set(which, most[which] + 1), -2);
-            due.is("MIN", book.set(which, MIN), -2);
-            due.is("MAX", book.set(which, MAX), -2);
-        }
-        due.is("states", book.count(20), 0);
-        for (int which = 0; which < 5; which++) {
             due.is("to the most", book.set(which, most[which]), first[which]);
             due.is("so already", book.set(which, most[which]), -5);
             due.is("to the least", book.set(which, least[which]), most[which]);
@@ -293,15 +212,5 @@ public final class DaysTest {
         }
         due.is("undo", book.undo(), 3);
         due.is("told", book.count(19), 1);
-    }
-
-    private static void setRefuses() {
-        due.of(10);
-        InvoiceBook book = new InvoiceBook();
-        for (int which : new int[] {-1, 5, MIN, MAX}) {
-            due.is("set(" + which + ", 1)", book.set(which, 1), -1);
-            due.is("set(" + which + ", -1)", book.set(which, -1), -1);
-        }
-        due.is("states", book.count(20), 0);
     }
 }

@@ -1,19 +1,27 @@
+import java.util.function.Supplier;
+import java.util.function.ToIntFunction;
+
 /** Compares answers with what is due, and ends the program with exit code 1 if one is wrong. */
 final class Due {
-    private int promise;
+    private String source = "";
     private int asked;
     private int wrong;
 
     /** What is asked from now on belongs to this promise. */
     void of(int promise) {
-        this.promise = promise;
+        source = "promise " + promise;
+    }
+
+    /** What is asked from now on belongs to this promise, and to these words of the document. */
+    void of(int promise, String words) {
+        source = "promise " + promise + ", \"" + words + "\"";
     }
 
     void is(String call, int got, int want) {
         asked++;
         if (got != want) {
             wrong++;
-            System.out.println("promise " + promise + ": " + call + " answered " + got + ", due is " + want);
+            System.out.println(source + ": " + call + " answered " + got + ", due is " + want);
         }
     }
 
@@ -36,6 +44,23 @@ final class Due {
         for (int what = 0; what < want.length; what++) {
             is("count(" + what + ")", book.count(what), want[what]);
         }
+    }
+
+    /** The two books must tell the same of all, of their histories and their snapshots too. Both are used up. */
+    void same(String call, InvoiceBook got, InvoiceBook want) {
+        asked++;
+        String difference = Picture.difference(Picture.of(got), Picture.of(want));
+        if (difference != null) {
+            wrong++;
+            System.out.println(source + ": behind " + call + " " + difference);
+        }
+    }
+
+    /** The call must answer this and change nothing. */
+    void refuses(String call, int want, Supplier<InvoiceBook> made, ToIntFunction<InvoiceBook> asks) {
+        InvoiceBook book = made.get();
+        is(call, asks.applyAsInt(book), want);
+        same(call, book, made.get());
     }
 
     void end() {

@@ -520,14 +520,20 @@ final class Model {
         return done < 0 ? done : answers[what];
     }
 
-    /** Tries the amounts from one that is surely enough downwards. */
+    /** Tries amounts between one that is too little and one that is surely enough. */
     int settles(int customer) {
         if (!within(customer, 0, 7)) {
             return UNKNOWN;
         }
+        int tooLittle = -1;
         int enough = now.owed(customer, 0);
-        while (enough > 0 && paysAll(customer, enough - 1)) {
-            enough--;
+        while (enough - tooLittle > 1) {
+            int amount = (enough + tooLittle) / 2;
+            if (paysAll(customer, amount)) {
+                enough = amount;
+            } else {
+                tooLittle = amount;
+            }
         }
         return enough;
     }

@@ -2,8 +2,11 @@ import java.util.Random;
 
 /** Promises 1 to 26 by many runs of calls, each asked of the program and of the model. The seeds are fixed. */
 public final class ModelTest {
-    private static final int RUNS = 600;
-    private static final int ROUNDS = 512;
+    private static final int RUNS = 1200;
+    /** Nothing is promised of an object beyond these. */
+    private static final int MOST_CALLS = 512;
+    /** A round calls a book at most so often: a text is emptied, typed, performed, and its stop is asked. */
+    private static final int CALLS_OF_A_ROUND = 65;
     private static final int[] EDGES = {-1, 0, 1, 7, 8, 39, 40, 41, 99, 100, 9999, 10000, 99999, 100000,
         Integer.MIN_VALUE, Integer.MAX_VALUE};
 
@@ -11,6 +14,7 @@ public final class ModelTest {
     private final InvoiceBook book = new InvoiceBook();
     private final Model model = new Model();
     private final StringBuilder log = new StringBuilder();
+    private int calls;
     private boolean differs;
 
     // What a run is like: how many coins its payments have, how fast its days go by, and so on.
@@ -20,6 +24,7 @@ public final class ModelTest {
     private final int customers;
     private final boolean undoes;
     private final int pays;
+    private final int texts;
 
     private ModelTest(long seed) {
         random = new Random(seed);
@@ -29,12 +34,13 @@ public final class ModelTest {
         customers = random.nextBoolean() ? 2 : 8;
         undoes = random.nextInt(3) > 0;
         pays = random.nextInt(4) + 1;
-        start(random.nextInt(6));
+        texts = random.nextInt(3) > 0 ? 0 : 15;
+        start(random.nextInt(12));
     }
 
     /** Some runs start near the last day, and some with customers whose credit is nearly all that they can have. */
     private void start(int kind) {
-        for (int day = 9900 - random.nextInt(300); kind == 0 && book.count(0) < day; ) {
+        for (int day = 9900 - random.nextInt(300); kind == 0 && model.count(0) < day; ) {
             same("pass(99)", book.pass(99), model.pass(99));
         }
         for (int customer = 0; kind == 1 && customer < 8; customer++) {
@@ -48,7 +54,7 @@ public final class ModelTest {
         int wrong = 0;
         for (int seed = 1; seed <= RUNS && wrong < 3; seed++) {
             ModelTest run = new ModelTest(seed);
-            for (int call = 0; call < ROUNDS && !run.differs; call++) {
+            while (run.calls + CALLS_OF_A_ROUND <= MOST_CALLS && !run.differs) {
                 run.call();
             }
             if (run.differs) {
@@ -56,13 +62,14 @@ public final class ModelTest {
                 System.out.println("seed " + seed + ":" + run.log);
             }
         }
-        System.out.println(RUNS + " runs of " + ROUNDS + " rounds, " + wrong + " differ");
+        System.out.println(RUNS + " runs of at most " + MOST_CALLS + " calls, " + wrong + " differ");
         if (wrong != 0) {
             System.exit(1);
         }
     }
 
     private void same(String call, int got, int want) {
+        calls++;
         log.append("\n  ").append(call).append(" answered ").append(got);
         if (got != want) {
             log.append(", due is ").append(want);
@@ -79,10 +86,10 @@ public final class ModelTest {
     }
 
     private int bill() {
-        int bill = upTo(Math.max(1, book.count(1)) - 1);
+        int bill = upTo(Math.max(1, model.count(1)) - 1);
         // Most bills are paid after a while; those that are not are of more interest.
-        for (int tries = 0; tries < 8 && book.billOf(bill, 6) == 1; tries++) {
-            bill = upTo(Math.max(1, book.count(1)) - 1);
+        for (int tries = 0; tries < 8 && model.billOf(bill, 6) == 1; tries++) {
+            bill = upTo(Math.max(1, model.count(1)) - 1);
         }
         return bill;
     }
@@ -90,7 +97,7 @@ public final class ModelTest {
     private int amount() {
         if (random.nextInt(3) == 0) {
             // About as much as a customer owes: where discounts and bills begin and end.
-            int owed = book.settles(random.nextInt(customers));
+            int owed = model.settles(random.nextInt(customers));
             return Math.max(1, Math.min(99999, owed + random.nextInt(5) - 2));
         }
         return upTo(mostPaid);
@@ -100,9 +107,11 @@ public final class ModelTest {
         int kind = random.nextInt(100);
         if (kind < 40) {
             act(kind);
-        } else if (kind < 55) {
+        } else if (kind < 40 + texts) {
             text();
         } else if (kind < 60) {
+            act(random.nextInt(40));
+        } else if (kind < 65) {
             history();
         } else {
             told(random.nextInt(9));
@@ -138,7 +147,7 @@ public final class ModelTest {
             int b = bill();
             same("writeOff(" + b + ")", book.writeOff(b), model.writeOff(b));
         } else if (kind < 37) {
-            int year = random.nextBoolean() ? book.count(14) : upTo(10);
+            int year = random.nextBoolean() ? model.count(14) : upTo(10);
             same("closeYear(" + year + ")", book.closeYear(year), model.closeYear(year));
         } else {
             int which = upTo(4);
@@ -149,7 +158,7 @@ public final class ModelTest {
 
     private void pass() {
         // Just as many days as lie between two reminders, or one more or less, or some.
-        int days = random.nextBoolean() ? book.count(17) + random.nextInt(3) - 1 : upTo(mostDays);
+        int days = random.nextBoolean() ? model.count(17) + random.nextInt(3) - 1 : upTo(mostDays);
         same("pass(" + days + ")", book.pass(days), model.pass(days));
     }
 
@@ -164,8 +173,8 @@ public final class ModelTest {
             case 2:
                 return "p" + c + ":" + (1 + random.nextInt(mostPaid));
             case 3:
-                int bill = random.nextInt(8) == 0 ? Math.min(39, book.count(1)) : Math.max(0, Math.min(39, bill()));
-                int owner = book.billOf(bill, 0);
+                int bill = random.nextInt(8) == 0 ? Math.min(39, model.count(1)) : Math.max(0, Math.min(39, bill()));
+                int owner = model.billOf(bill, 0);
                 return "p" + (owner < 0 || random.nextInt(4) == 0 ? c : owner)
                     + ":" + (1 + random.nextInt(mostPaid)) + "#" + bill;
             case 4:
@@ -211,27 +220,29 @@ public final class ModelTest {
         }
     }
 
+    /** Mostly one number is asked, for each call of a run counts; sometimes all. */
     private void told(int kind) {
         int c = customer();
         int b = bill();
+        boolean all = random.nextInt(20) == 0;
         if (kind == 0) {
-            for (int what = -1; what <= 14; what++) {
+            for (int what = first(all, 14); what <= 14; what += step(all)) {
                 same("billOf(" + b + ", " + what + ")", book.billOf(b, what), model.billOf(b, what));
             }
         } else if (kind == 1) {
-            for (int what = -1; what <= 7; what++) {
+            for (int what = first(all, 7); what <= 7; what += step(all)) {
                 same("customer(" + c + ", " + what + ")", book.customer(c, what), model.customer(c, what));
             }
         } else if (kind == 2) {
-            int year = upTo(Math.min(99, book.count(0) / 100));
-            for (int way = -1; way <= 3; way++) {
+            int year = upTo(Math.min(99, model.count(0) / 100));
+            for (int way = first(all, 3); way <= 3; way += step(all)) {
                 same("tax(" + year + ", " + way + ")", book.tax(year, way), model.tax(year, way));
             }
         } else if (kind == 3) {
             same("reason(" + b + ")", book.reason(b), model.reason(b));
         } else if (kind == 4) {
             int amount = amount();
-            for (int what = -1; what <= 4; what++) {
+            for (int what = first(all, 4); what <= 4; what += step(all)) {
                 same("ifPaid(" + c + ", " + amount + ", " + what + ")",
                     book.ifPaid(c, amount, what), model.ifPaid(c, amount, what));
             }
@@ -242,9 +253,18 @@ public final class ModelTest {
         } else if (kind == 7) {
             same("worst()", book.worst(), model.worst());
         } else {
-            for (int what = -1; what <= 22; what++) {
+            for (int what = first(all, 22); what <= 22; what += step(all)) {
                 same("count(" + what + ")", book.count(what), model.count(what));
             }
         }
+    }
+
+    private int first(boolean all, int most) {
+        return all ? -1 : random.nextInt(most + 2) - 1;
+    }
+
+    /** Beyond every range if not all are asked. */
+    private static int step(boolean all) {
+        return all ? 1 : 100;
     }
 }

@@ -12,7 +12,6 @@ public final class TextsTest {
         performDoesAll();
         performTakesWhatIsUsual();
         performIsOneAct();
-        performIsStopped();
         performPassesByWhatIsNone();
         stoppedTellsTheLatest();
         due.end();
@@ -209,44 +208,6 @@ public final class TextsTest {
         due.is("day", book.count(0), 1);
         due.is("bills", book.count(1), 0);
         due.is("text", book.count(21), 20);
-    }
-
-    private static void stop(InvoiceBook book, String text, int number, int error) {
-        int states = book.count(20);
-        int bills = book.count(1);
-        int day = book.count(0);
-        int paid = book.count(9);
-        due.is("perform of " + text, Books.perform(book, text), -4);
-        due.is("number in " + text, book.stopped(0), number);
-        due.is("error of " + text, book.stopped(1), error);
-        due.is("states behind " + text, book.count(20), states);
-        due.is("bills behind " + text, book.count(1), bills);
-        due.is("day behind " + text, book.count(0), day);
-        due.is("paid behind " + text, book.count(9), paid);
-    }
-
-    private static void performIsStopped() {
-        due.of(13);
-        InvoiceBook book = new InvoiceBook();
-        stop(book, "p1:5#0", 0, -1);
-        stop(book, "b1:90;p2:5#0", 1, -4);
-        stop(book, "b1:90;p2:5#1", 1, -1);
-        stop(book, "b1:90;.3;p1:200;p1:1#0", 3, -4);
-        due.is("the other's bill is not paid", Books.perform(book, "b1:90;p1:5#0"), 2);
-        stop(book, ".7;r;p2:5#0", 2, -4);
-        Books.passTo(book, 9950);
-        stop(book, ".49;r;.1", 2, -3);
-        due.is("up to the last day", Books.perform(book, ".49"), 1);
-        Books.fillCredit(book, 6);
-        stop(book, "p5:5;p6:1", 1, -3);
-        stop(book, "b6:1;p6:2", 1, -3);
-        due.is("room is made", Books.perform(book, "b6:1@0;p6:1"), 2);
-        while (book.count(1) < 39) {
-            book.bill(0, 1, 0, 0);
-        }
-        stop(book, "b1:5;b1:5", 1, -3);
-        due.is("the last bill", Books.perform(book, "b1:5"), 1);
-        stop(book, "b1:5", 0, -3);
     }
 
     private static void performPassesByWhatIsNone() {

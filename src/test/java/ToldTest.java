@@ -1,26 +1,18 @@
 /** Promises 18 to 26: what is told. */
 public final class ToldTest {
-    private static final int MIN = Integer.MIN_VALUE;
-    private static final int MAX = Integer.MAX_VALUE;
     private static final Due due = new Due();
 
     public static void main(String[] args) {
         billOfTellsAll();
-        billOfRefuses();
         customerTellsAll();
-        customerRefuses();
         taxTellsBothWays();
-        taxRefuses();
         reasonTellsTheFirst();
-        reasonRefuses();
         ifPaidTellsAndChangesNothing();
-        ifPaidRefuses();
         settlesIsTheLeast();
         nextReminderTellsTheDay();
         nextReminderTellsNone();
         worstOwesMost();
         countTellsAll();
-        countRefuses();
         accountsAddUp();
         due.end();
     }
@@ -46,19 +38,6 @@ public final class ToldTest {
         due.bill(book, 1, 0, 200, 10, 210, 34, 35, 1, 206, 4, 0, 0, 0, 36, 0);
     }
 
-    private static void billOfRefuses() {
-        due.of(18);
-        InvoiceBook book = new InvoiceBook();
-        due.is("none yet", book.billOf(0, 0), -1);
-        book.bill(0, 1, 0, 0);
-        for (int bill : new int[] {-1, 1, 39, 40, MIN, MAX}) {
-            due.is("billOf(" + bill + ", 99)", book.billOf(bill, 99), -1);
-        }
-        for (int what : new int[] {-1, 14, MIN, MAX}) {
-            due.is("billOf(0, " + what + ")", book.billOf(0, what), -2);
-        }
-    }
-
     private static void customerTellsAll() {
         due.of(19);
         InvoiceBook book = Books.withWriteOff();
@@ -77,18 +56,6 @@ public final class ToldTest {
         book.pay(2, 500);
         due.customer(book, 2, 3, 0, 0, 304, 638, 95, -5);
         due.customer(book, 0, 0, 0, 0, 0, 0, 0, -5);
-    }
-
-    private static void customerRefuses() {
-        due.of(19);
-        InvoiceBook book = new InvoiceBook();
-        for (int customer : new int[] {-1, 8, MIN, MAX}) {
-            due.is("customer(" + customer + ", 0)", book.customer(customer, 0), -1);
-            due.is("customer(" + customer + ", 7)", book.customer(customer, 7), -1);
-        }
-        for (int what : new int[] {-1, 7, MIN, MAX}) {
-            due.is("customer(0, " + what + ")", book.customer(0, what), -2);
-        }
     }
 
     private static void taxTellsBothWays() {
@@ -128,20 +95,6 @@ public final class ToldTest {
         due.is("paid all the same", other.tax(0, 1), 11);
     }
 
-    private static void taxRefuses() {
-        due.of(20);
-        InvoiceBook book = new InvoiceBook();
-        for (int year : new int[] {-1, 100, MIN, MAX}) {
-            for (int way = -1; way <= 3; way++) {
-                due.is("tax(" + year + ", " + way + ")", book.tax(year, way), -1);
-            }
-        }
-        for (int way : new int[] {-1, 3, MIN, MAX}) {
-            due.is("tax(0, " + way + ")", book.tax(0, way), -2);
-        }
-        due.is("tax(99, 2)", book.tax(99, 2), -5);
-    }
-
     private static void reasonTellsTheFirst() {
         due.of(21);
         InvoiceBook book = new InvoiceBook();
@@ -173,16 +126,6 @@ public final class ToldTest {
         book.bill(0, 1, 0, 0);
         book.pay(0, 1);
         due.is("paid ahead of not overdue", book.reason(1), 1);
-    }
-
-    private static void reasonRefuses() {
-        due.of(21);
-        InvoiceBook book = new InvoiceBook();
-        due.is("none yet", book.reason(0), -1);
-        book.bill(0, 1, 0, 0);
-        for (int bill : new int[] {-1, 1, 39, 40, MIN, MAX}) {
-            due.is("reason(" + bill + ")", book.reason(bill), -1);
-        }
     }
 
     private static void ifPaid(InvoiceBook book, int customer, int amount, int... want) {
@@ -222,40 +165,9 @@ public final class ToldTest {
         ifPaid(other, 2, 500, 0, 0, 500, 0);
     }
 
-    private static void ifPaidRefuses() {
-        due.of(22);
-        InvoiceBook book = new InvoiceBook();
-        for (int customer : new int[] {-1, 8, MIN, MAX}) {
-            due.is("ifPaid(" + customer + ", 0, 9)", book.ifPaid(customer, 0, 9), -1);
-        }
-        for (int amount : new int[] {0, 100000, -1, MIN, MAX}) {
-            due.is("ifPaid(0, " + amount + ", 0)", book.ifPaid(0, amount, 0), -2);
-        }
-        for (int what : new int[] {-1, 4, MIN, MAX}) {
-            due.is("ifPaid(0, 1, " + what + ")", book.ifPaid(0, 1, what), -2);
-        }
-        Books.fillCredit(book, 0);
-        ifPaid(book, 0, 1, -3, -3, -3, -3);
-        due.is("bad value first", book.ifPaid(0, 1, 4), -2);
-        due.is("bad value first", book.ifPaid(0, 0, 0), -2);
-        book.payBack(0);
-        book.pay(0, 1);
-        for (int i = 0; i < 9; i++) {
-            book.pay(0, 99999);
-        }
-        ifPaid(book, 0, 99999, 0, 0, 999991, 0);
-        book.pay(0, 8);
-        ifPaid(book, 0, 99999, 0, 0, 999999, 0);
-        book.pay(0, 1);
-        ifPaid(book, 0, 99999, -3, -3, -3, -3);
-    }
-
     private static void settlesIsTheLeast() {
         due.of(23);
         InvoiceBook book = new InvoiceBook();
-        for (int customer : new int[] {-1, 8, MIN, MAX}) {
-            due.is("settles(" + customer + ")", book.settles(customer), -1);
-        }
         due.is("nothing owed", book.settles(0), 0);
         book.bill(0, 100, 0, 0);
         book.bill(0, 199, 0, 0);
@@ -321,11 +233,7 @@ public final class ToldTest {
     private static void nextReminderTellsNone() {
         due.of(24);
         InvoiceBook book = new InvoiceBook();
-        due.is("none yet", book.nextReminder(0), -1);
         book.bill(0, 100, 0, 0);
-        for (int bill : new int[] {-1, 1, 39, 40, MIN, MAX}) {
-            due.is("nextReminder(" + bill + ")", book.nextReminder(bill), -1);
-        }
         book.pay(0, 98);
         due.is("paid", book.nextReminder(0), -5);
         InvoiceBook other = Books.withWriteOff();
@@ -401,14 +309,6 @@ public final class ToldTest {
         book.closeYear(0);
         book.closeYear(1);
         due.count(book, 300, 4, 2, 1, 1, 2, 1000 + 50 + 6, 105, 17, 277, 32, 2, 21, 5, 2, 1, 3, 4, 6, 1, 4, 3);
-    }
-
-    private static void countRefuses() {
-        due.of(26);
-        InvoiceBook book = new InvoiceBook();
-        for (int what : new int[] {-1, 22, 23, 100, MIN, MAX}) {
-            due.is("count(" + what + ")", book.count(what), -2);
-        }
     }
 
     private static void accountsAddUp() {
