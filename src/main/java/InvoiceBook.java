@@ -468,18 +468,14 @@ public final class InvoiceBook {
             System.arraycopy(other.values, 0, values, 0, values.length);
         }
 
-        int valueOf(int which) {
-            return which >= 0 && which < values.length ? values[which] : UNKNOWN;
-        }
-
         int change(int which, int value) {
-            int before = valueOf(which);
-            if (before == UNKNOWN) {
+            if (which < 0 || which >= values.length) {
                 return UNKNOWN;
             }
             if (value < LEAST[which] || value > MOST[which]) {
                 return BAD_VALUE;
             }
+            int before = values[which];
             if (value == before) {
                 return NONE;
             }

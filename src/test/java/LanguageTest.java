@@ -1,9 +1,13 @@
 import com.sun.source.tree.AssertTree;
+import com.sun.source.tree.BinaryTree;
 import com.sun.source.tree.ClassTree;
 import com.sun.source.tree.CompilationUnitTree;
+import com.sun.source.tree.CompoundAssignmentTree;
+import com.sun.source.tree.IdentifierTree;
 import com.sun.source.tree.LambdaExpressionTree;
 import com.sun.source.tree.MemberReferenceTree;
 import com.sun.source.tree.MemberSelectTree;
+import com.sun.source.tree.MethodInvocationTree;
 import com.sun.source.tree.MethodTree;
 import com.sun.source.tree.NewArrayTree;
 import com.sun.source.tree.NewClassTree;
@@ -12,9 +16,11 @@ import com.sun.source.tree.ThrowTree;
 import com.sun.source.tree.Tree;
 import com.sun.source.tree.TryTree;
 import com.sun.source.tree.TypeCastTree;
+import com.sun.source.tree.VariableTree;
 import com.sun.source.util.JavacTask;
 import com.sun.source.util.SourcePositions;
-import com.sun.source.util.TreeScanner;
+import com.sun.source.util.TreePath;
+import com.sun.source.util.TreePathScanner;
 import com.sun.source.util.Trees;
 import java.io.File;
 import java.io.IOException;
@@ -22,9 +28,17 @@ import java.lang.reflect.Constructor;
 import java.lang.reflect.Field;
 import java.lang.reflect.Method;
 import java.lang.reflect.Modifier;
-import java.util.List;
+import java.util.ArrayDeque;
+import java.util.Deque;
+import java.util.LinkedHashMap;
+import java.util.LinkedHashSet;
+import java.util.Map;
 import java.util.Set;
 import java.util.TreeSet;
+import javax.lang.model.element.Element;
+import javax.lang.model.element.ElementKind;
+import javax.lang.model.element.TypeElement;
+import javax.lang.model.type.TypeMirror;
 import javax.tools.JavaCompiler;
 import javax.tools.StandardJavaFileManager;
 import javax.tools.ToolProvider;
@@ -36,8 +50,13 @@ public final class LanguageTest {
     private static final int MOST_PARAMETERS = 7;
     private static final int MOST_FIELDS = 20;
     private static final int MOST_CLASSES = 12;
-    private static final Set<String> LIBRARY = Set.of("Math", "System");
+    private static final int MOST_DEEP = 8;
+    /** What the program uses of the library; what else LANGUAGE.md lists is put here as it is used. */
+    private static final Set<String> LIBRARY = Set.of("java.lang.Math", "java.lang.System");
     private static final Set<String> LIBRARY_CALLS = Set.of("Math.max", "Math.min", "System.arraycopy");
+    private static final Set<String> CONSTANTS = Set.of("int", "long", "boolean", "char", "java.lang.String");
+    private static final Set<String> CONSTANT_ARRAYS = Set.of("int[]", "long[]", "char[]", "byte[]");
+    private static final Set<String> NOT_OF_OUR_OWN = Set.of("equals", "hashCode", "toString");
     private static final Set<String> FACE = Set.of(
         "bill(int,int,int,int)", "pay(int,int)", "payBill(int,int)", "payBack(int)", "pass(int)", "remind()",
         "writeOff(int)", "closeYear(int)", "set(int,int)", "type(char)", "clearText()", "perform()",
@@ -54,7 +73,8 @@ public final class LanguageTest {
             JavacTask task = (JavacTask) compiler.getTask(null, files, null, null, null,
                 files.getJavaFileObjects(new File(PROGRAM)));
             CompilationUnitTree unit = task.parse().iterator().next();
-            new Rules(unit, Trees.instance(task).getSourcePositions()).look();
+            task.analyze();
+            new Rules(unit, Trees.instance(task)).look();
         }
         System.out.println(wrong == 0 ? "the program keeps to its language" : wrong + " places are wrong");
         if (wrong != 0) {
@@ -112,25 +132,68 @@ public final class LanguageTest {
         }
     }
 
-    private static final class Rules extends TreeScanner<Void, Void> {
+    /** Whom each method calls, those of the library too. */
+    private static final class Calls {
+        private final Map<Element, Set<Element>> called = new LinkedHashMap<>();
+        private final Map<Element, Integer> depths = new LinkedHashMap<>();
+        private final Deque<Element> open = new ArrayDeque<>();
+
+        void add(Element caller, Element callee) {
+            called.computeIfAbsent(caller, c -> new LinkedHashSet<>()).add(callee);
+        }
+
+        void look() {
+            for (Element method : called.keySet()) {
+                if (depth(method) > MOST_DEEP) {
+                    say(method + " goes " + depth(method) + " calls deep");
+                }
+            }
+        }
+
+        private int depth(Element method) {
+            if (open.contains(method)) {
+                say(method + " calls itself");
+                return 0;
+            }
+            Integer known = depths.get(method);
+            if (known != null) {
+                return known;
+            }
+            open.push(method);
+            int deepest = 0;
+            for (Element callee : called.getOrDefault(method, Set.of())) {
+                deepest = Math.max(deepest, depth(callee));
+            }
+            open.pop();
+            depths.put(method, deepest + 1);
+            return deepest + 1;
+        }
+    }
+
+    private static final class Rules extends TreePathScanner<Void, Void> {
         private final CompilationUnitTree unit;
+        private final Trees trees;
         private final SourcePositions positions;
-        private String method;
+        private final Calls calls = new Calls();
+        private MethodTree method;
+        private Element caller;
         private int classes;
 
-        Rules(CompilationUnitTree unit, SourcePositions positions) {
+        Rules(CompilationUnitTree unit, Trees trees) {
             this.unit = unit;
-            this.positions = positions;
+            this.trees = trees;
+            this.positions = trees.getSourcePositions();
         }
 
         void look() {
             if (unit.getPackageName() != null || !unit.getImports().isEmpty()) {
                 LanguageTest.say("a package line or an import");
             }
-            scan(unit, null);
+            scan(new TreePath(unit), null);
             if (classes > MOST_CLASSES) {
                 LanguageTest.say(classes + " classes");
             }
+            calls.look();
         }
 
         private long line(long position) {
@@ -141,25 +204,47 @@ public final class LanguageTest {
             LanguageTest.say("line " + line(positions.getStartPosition(unit, tree)) + ": " + what);
         }
 
+        private static boolean has(Set<?> modifiers, String name) {
+            return modifiers.stream().anyMatch(m -> m.toString().equals(name));
+        }
+
         @Override
         public Void visitClass(ClassTree tree, Void none) {
             classes++;
-            List<? extends Tree> members = tree.getMembers();
-            long fields = members.stream().filter(m -> m.getKind() == Tree.Kind.VARIABLE
-                && !m.toString().contains("static final")).count();
-            if (fields > MOST_FIELDS) {
-                say(tree, fields + " fields");
+            Set<?> modifiers = trees.getElement(getCurrentPath()).getModifiers();
+            if (classes > 1 && (!has(modifiers, "static") || has(modifiers, "public") || has(modifiers, "protected"))) {
+                say(tree, "a class inside that is not static, or can be seen");
             }
-            for (Tree member : members) {
-                if (member.getKind() == Tree.Kind.VARIABLE && member.toString().contains("static ")
-                    && !member.toString().contains("static final")) {
-                    say(member, "a static field that is not final");
-                }
+            int fields = 0;
+            for (Tree member : tree.getMembers()) {
                 if (member.getKind() == Tree.Kind.BLOCK) {
                     say(member, "an initialiser block");
                 }
+                if (member instanceof VariableTree field) {
+                    fields += isConstant(field) ? 0 : 1;
+                }
+            }
+            if (fields > MOST_FIELDS) {
+                say(tree, fields + " fields");
             }
             return super.visitClass(tree, none);
+        }
+
+        private boolean isConstant(VariableTree field) {
+            Element element = trees.getElement(new TreePath(getCurrentPath(), field));
+            if (element.getKind() == ElementKind.ENUM_CONSTANT) {
+                return true;
+            }
+            if (!has(element.getModifiers(), "static")) {
+                return false;
+            }
+            String type = element.asType().toString();
+            boolean writtenOut = CONSTANT_ARRAYS.contains(type) && field.getInitializer() instanceof NewArrayTree array
+                && array.getInitializers() != null;
+            if (!has(element.getModifiers(), "final") || !CONSTANTS.contains(type) && !writtenOut) {
+                say(field, "a static field that is not a constant");
+            }
+            return true;
         }
 
         @Override
@@ -174,21 +259,43 @@ public final class LanguageTest {
             if (!tree.getThrows().isEmpty()) {
                 say(tree, "throws");
             }
-            method = tree.getName().toString();
+            if (NOT_OF_OUR_OWN.contains(tree.getName().toString())) {
+                say(tree, "a method " + tree.getName());
+            }
+            method = tree;
+            caller = trees.getElement(getCurrentPath());
             super.visitMethod(tree, none);
             method = null;
+            caller = null;
             return null;
+        }
+
+        /** What a field starts with is made by the constructors, whose calls do not go deep. */
+        private void call(Tree tree) {
+            Element callee = trees.getElement(getCurrentPath());
+            if (callee == null) {
+                say(tree, "a call of something unknown");
+            } else if (caller != null) {
+                calls.add(caller, callee);
+            }
+        }
+
+        @Override
+        public Void visitMethodInvocation(MethodInvocationTree tree, Void none) {
+            call(tree);
+            return super.visitMethodInvocation(tree, none);
         }
 
         /** All calls share one room, so objects are made by constructors and fields alone. */
         private void lookAtNew(Tree tree) {
-            if (method != null && !method.equals("<init>")) {
-                say(tree, "an object is made in " + method);
+            if (method != null && !method.getName().contentEquals("<init>")) {
+                say(tree, "an object is made in " + method.getName());
             }
         }
 
         @Override
         public Void visitNewClass(NewClassTree tree, Void none) {
+            call(tree);
             lookAtNew(tree);
             if (tree.getClassBody() != null) {
                 say(tree, "an anonymous class");
@@ -202,12 +309,48 @@ public final class LanguageTest {
             return super.visitNewArray(tree, none);
         }
 
+        private void lookAtType(Tree tree) {
+            if (trees.getElement(getCurrentPath()) instanceof TypeElement type) {
+                String name = type.getQualifiedName().toString();
+                if (!name.equals("InvoiceBook") && !name.startsWith("InvoiceBook.") && !LIBRARY.contains(name)) {
+                    say(tree, "the library's " + name);
+                }
+            }
+        }
+
+        @Override
+        public Void visitIdentifier(IdentifierTree tree, Void none) {
+            lookAtType(tree);
+            return super.visitIdentifier(tree, none);
+        }
+
         @Override
         public Void visitMemberSelect(MemberSelectTree tree, Void none) {
-            if (LIBRARY.contains(tree.getExpression().toString()) && !LIBRARY_CALLS.contains(tree.toString())) {
+            lookAtType(tree);
+            if (trees.getElement(new TreePath(getCurrentPath(), tree.getExpression())) instanceof TypeElement type
+                && LIBRARY.contains(type.getQualifiedName().toString()) && !LIBRARY_CALLS.contains(tree.toString())) {
                 say(tree, "the library's " + tree);
             }
             return super.visitMemberSelect(tree, none);
+        }
+
+        private void lookAtText(Tree tree) {
+            TypeMirror type = trees.getTypeMirror(getCurrentPath());
+            if (type != null && type.toString().equals("java.lang.String")) {
+                say(tree, "texts joined by +");
+            }
+        }
+
+        @Override
+        public Void visitBinary(BinaryTree tree, Void none) {
+            lookAtText(tree);
+            return super.visitBinary(tree, none);
+        }
+
+        @Override
+        public Void visitCompoundAssignment(CompoundAssignmentTree tree, Void none) {
+            lookAtText(tree);
+            return super.visitCompoundAssignment(tree, none);
         }
 
         @Override
